@@ -184,18 +184,35 @@ public final class PricedCopies {
 
     public int count(int what) {
         if (what < 0 || what >= COUNTS) return OUTSIDE;
-        if (what >= 2 && what <= 4) return countTokens(what);
-        if (what == 0) return page.size();
-        if (what == 1) return told.size();
-        if (what == 5) return roundsMade;
-        return what == 6 ? textsRead : codesRead;
+        if (what >= 2 && what <= 4) chooseCheapest();
+        switch (what) {
+            case 0: return page.size();
+            case 1: return told.size();
+            case 2: return cheapestRow.plains();
+            case 3: return cheapestRow.agains();
+            case 4: return cheapestRow.copies();
+            case 5: return roundsMade;
+            case 6: return textsRead;
+            default: return codesRead;
+        }
     }
 
     public long digest() {
         long h = DIGEST_START;
         for (int i = 0; i < PRICE_KINDS; i++) h = mix(h, prices.get(i));
-        for (int place = 0; place < told.size(); place++) h = mixPlace(h, place);
-        if (hasText()) h = mixChosen(h);
+        for (int place = 0; place < told.size(); place++) {
+            h = mix(h, at(place));
+            for (int what = 0; what <= 1; what++) h = mix(h, longest(place, what));
+            for (int k = 0; k <= 1; k++) h = mix(h, chain(place, k));
+        }
+        if (hasText()) {
+            for (int what = 0; what <= 2; what++) h = mix(h, cheapest(what));
+            for (int i = 0; i < cheapestRow.size(); i++) h = mix(h, cheapestRow.get(i));
+            for (int what = 0; what <= 1; what++) h = mix(h, greedy(what));
+            for (int what = 0; what <= 2; what++) h = mix(h, rest(what));
+            h = mix(h, parts(4, 0));
+            h = mix(h, parts(10, 0));
+        }
         for (int i = 0; i < page.size(); i++) h = mix(h, page.signAt(i));
         for (int what = 0; what < COUNTS; what++) h = mix(h, count(what));
         return h;
@@ -222,6 +239,7 @@ public final class PricedCopies {
         restKnown = false;
     }
 
+    /** Without a TEXT the row stays empty. */
     private void chooseCheapest() {
         if (cheapestKnown) return;
         chooser.choose(told, prices, 0, told.size(), cheapestRow);
@@ -271,39 +289,14 @@ public final class PricedCopies {
         restKnown = true;
     }
 
-    private int countTokens(int what) {
-        if (!hasText()) return 0;
-        chooseCheapest();
-        if (what == 2) return cheapestRow.plains();
-        return what == 3 ? cheapestRow.agains() : cheapestRow.copies();
-    }
-
     private static long mix(long h, long number) {
         return DIGEST_FACTOR * h + number;
-    }
-
-    private long mixPlace(long before, int place) {
-        long h = mix(before, at(place));
-        h = mix(h, longest(place, 0));
-        h = mix(h, longest(place, 1));
-        h = mix(h, chain(place, 0));
-        return mix(h, chain(place, 1));
-    }
-
-    private long mixChosen(long before) {
-        long h = before;
-        for (int what = 0; what <= 2; what++) h = mix(h, cheapest(what));
-        for (int i = 0; i < cheapestRow.size(); i++) h = mix(h, cheapestRow.get(i));
-        for (int what = 0; what <= 1; what++) h = mix(h, greedy(what));
-        for (int what = 0; what <= 2; what++) h = mix(h, rest(what));
-        h = mix(h, parts(4, 0));
-        return mix(h, parts(10, 0));
     }
 
     /** How often 2 divides x till it is 1, rounded down each time; 0 for what is below 1, too. */
     private static int log(int x) {
         int times = 0;
-        for (int rest = x; rest > 1; rest /= 2) times++;
+        for (int left = x; left > 1; left /= 2) times++;
         return times;
     }
 
@@ -326,12 +319,12 @@ public final class PricedCopies {
         }
 
         static int lengthOf(int token) {
-            return isPlain(token) ? 1 : token % DISTANCE_STEP;
+            return token < AGAIN_NUMBER ? 1 : token % DISTANCE_STEP;
         }
 
         /** The DISTANCE of a COPY; 0 of others, since they tell none themselves. */
         static int distanceOf(int token) {
-            return isCopy(token) ? (token - COPY_NUMBER) / DISTANCE_STEP : 0;
+            return token < COPY_NUMBER ? 0 : (token - COPY_NUMBER) / DISTANCE_STEP;
         }
 
         static int signsOf(int token) {
@@ -389,39 +382,41 @@ public final class PricedCopies {
     private static final class TokenRow {
         private final int[] tokens = new int[TEXT_ROOM];
         private int size = 0;
+        private int plains = 0;
+        private int copies = 0;
 
         void clear() {
             size = 0;
+            plains = 0;
+            copies = 0;
         }
 
         void add(int token) {
             if (size >= TEXT_ROOM) return;
             tokens[size] = token;
             size++;
+            if (Token.isPlain(token)) plains++;
+            if (Token.isCopy(token)) copies++;
         }
 
         int size() {
             return size;
         }
 
-        int get(int i) {
-            return i >= 0 && i < size ? tokens[i] : NONE;
-        }
-
         int plains() {
-            int found = 0;
-            for (int i = 0; i < size; i++) if (Token.isPlain(get(i))) found++;
-            return found;
+            return plains;
         }
 
         int copies() {
-            int found = 0;
-            for (int i = 0; i < size; i++) if (Token.isCopy(get(i))) found++;
-            return found;
+            return copies;
         }
 
         int agains() {
-            return size - plains() - copies();
+            return size - plains - copies;
+        }
+
+        int get(int i) {
+            return i >= 0 && i < size ? tokens[i] : NONE;
         }
 
         int signs() {
@@ -568,7 +563,7 @@ public final class PricedCopies {
 
         /** LIKENESS of a PLACE and the one DISTANCE ahead of it; 0, if there is none. */
         int likeness(int place, int distance) {
-            return has(place) && distance >= 1 && distance <= place ? alike[place][distance] : 0;
+            return place < size && distance >= 1 && distance <= place ? alike[place][distance] : 0;
         }
 
         /** DISTANCE of LONGEST; 0, if that is below 2. */
@@ -603,7 +598,7 @@ public final class PricedCopies {
         private final int[] taken = new int[PRICE_KINDS];
 
         int get(int what) {
-            return isPrice(what) ? values[what] : 0;
+            return what >= 0 && what < PRICE_KINDS ? values[what] : 0;
         }
 
         void set(int what, int v) {
@@ -616,9 +611,10 @@ public final class PricedCopies {
 
         int ofToken(int token) {
             if (Token.isPlain(token)) return get(token);
-            int ofLength = get(lengthPrice(token));
+            int ofLength = get(LENGTH_PRICES + Token.lengthOf(token) - MIN_LENGTH);
             if (!Token.isCopy(token)) return get(AGAIN_PRICE) + ofLength;
-            return get(COPY_PRICE) + get(distancePrice(token)) + ofLength;
+            // DISTANCES of one PRICE end where the next power of 2 begins.
+            return get(COPY_PRICE) + get(DISTANCE_PRICES + log(Token.distanceOf(token))) + ofLength;
         }
 
         int ofRow(TokenRow row) {
@@ -630,13 +626,12 @@ public final class PricedCopies {
         /** A ROUND, by the row that is CHEAPEST: how many PRICES are others then. */
         int follow(TokenRow row) {
             countTaken(row);
-            int copies = row.copies();
-            int agains = row.agains();
+            int kinds = row.size() + KIND_SIZE;
             int others = reprice(0, LETTERS, row.plains() + LETTER_SIZE);
-            others += reprice(COPY_PRICE, DISTANCE_PRICES, row.size() + KIND_SIZE);
-            others += reprice(DISTANCE_PRICES, LENGTH_PRICES, copies + DISTANCE_SIZE);
-            others += reprice(LENGTH_PRICES, AGAIN_PRICE, copies + agains + LENGTH_SIZE);
-            return others + reprice(AGAIN_PRICE, PRICE_KINDS, row.size() + KIND_SIZE);
+            others += reprice(COPY_PRICE, DISTANCE_PRICES, kinds);
+            others += reprice(DISTANCE_PRICES, LENGTH_PRICES, row.copies() + DISTANCE_SIZE);
+            others += reprice(LENGTH_PRICES, AGAIN_PRICE, row.copies() + row.agains() + LENGTH_SIZE);
+            return others + reprice(AGAIN_PRICE, PRICE_KINDS, kinds);
         }
 
         private int reprice(int from, int to, int allAndSize) {
@@ -656,24 +651,15 @@ public final class PricedCopies {
                 if (Token.isPlain(token)) {
                     countOne(token);
                 } else {
+                    countOne(LENGTH_PRICES + Token.lengthOf(token) - MIN_LENGTH);
                     countOne(Token.isCopy(token) ? COPY_PRICE : AGAIN_PRICE);
-                    if (Token.isCopy(token)) countOne(distancePrice(token));
-                    countOne(lengthPrice(token));
+                    if (Token.isCopy(token)) countOne(DISTANCE_PRICES + log(Token.distanceOf(token)));
                 }
             }
         }
 
         private void countOne(int what) {
             if (isPrice(what)) taken[what]++;
-        }
-
-        private static int lengthPrice(int token) {
-            return LENGTH_PRICES + Token.lengthOf(token) - MIN_LENGTH;
-        }
-
-        // DISTANCES of one PRICE end where the next power of 2 begins.
-        private static int distancePrice(int token) {
-            return DISTANCE_PRICES + log(Token.distanceOf(token));
         }
     }
 
@@ -695,44 +681,48 @@ public final class PricedCopies {
         /** CHEAPEST of the letters from one PLACE up to another one, as if they were the TEXT, into a row. */
         void choose(Text text, Prices prices, int from, int to, TokenRow row) {
             row.clear();
-            if (from < 0 || from >= to || to > text.size()) return;
+            if (from < 0 || from >= to || to > text.size() || to > TEXT_ROOM) return;
             for (int latest = 0; latest <= to - from; latest++) weights[to][latest] = 0;
-            for (int place = to - 1; place >= from; place--) choosePlace(text, prices, from, to, place);
+            for (int place = to - 1; place >= from; place--) {
+                chooseCopy(text, prices, from, to, place);
+                chooseFirsts(text, prices, from, to, place);
+            }
             collect(from, to, row);
         }
 
-        private void choosePlace(Text text, Prices prices, int from, int to, int place) {
-            // Which COPY is best is the same for each latest DISTANCE.
+        /** The best COPY at a PLACE (NONE, if there is none): it is the same for each latest DISTANCE. */
+        private void chooseCopy(Text text, Prices prices, int from, int to, int place) {
             bestToken = NONE;
             for (int distance = 1; distance <= place - from; distance++) {
                 int most = Math.min(text.likeness(place, distance), to - place);
                 for (int length = MIN_LENGTH; length <= most; length++) {
-                    consider(prices, Token.copy(distance, length), place, distance);
+                    int token = Token.copy(distance, length);
+                    consider(token, prices.ofToken(token), weights[place + length][distance]);
                 }
             }
+        }
+
+        /** The best TOKEN at a PLACE for each latest DISTANCE, the best COPY being known. */
+        private void chooseFirsts(Text text, Prices prices, int from, int to, int place) {
             int copyToken = bestToken;
             int copyWeight = bestWeight;
+            int letter = text.letterAt(place);
             for (int latest = 0; latest <= place - from; latest++) {
                 bestToken = NONE;
-                consider(prices, text.letterAt(place), place, latest);
+                consider(letter, prices.ofToken(letter), weights[place + 1][latest]);
                 int most = Math.min(text.likeness(place, latest), to - place);
                 for (int length = MIN_LENGTH; length <= most; length++) {
-                    consider(prices, Token.again(length), place, latest);
+                    int token = Token.again(length);
+                    consider(token, prices.ofToken(token), weights[place + length][latest]);
                 }
-                if (copyToken != NONE) keepLighter(copyToken, copyWeight);
-                firsts[place][latest] = bestToken;
-                weights[place][latest] = bestWeight;
+                boolean copyWins = copyToken != NONE && copyWeight < bestWeight;
+                firsts[place][latest] = copyWins ? copyToken : bestToken;
+                weights[place][latest] = copyWins ? copyWeight : bestWeight;
             }
         }
 
-        /** Tries a TOKEN at a PLACE, behind which the DISTANCE of the latest COPY is as told. */
-        private void consider(Prices prices, int token, int place, int latestThen) {
-            int next = place + Token.lengthOf(token);
-            if (next > TEXT_ROOM || latestThen < 0 || latestThen > TEXT_ROOM) return;
-            keepLighter(token, PRICE_WEIGHT * prices.ofToken(token) + 1 + weights[next][latestThen]);
-        }
-
-        private void keepLighter(int token, int weight) {
+        private void consider(int token, int price, int weightBehind) {
+            int weight = PRICE_WEIGHT * price + 1 + weightBehind;
             if (bestToken != NONE && weight >= bestWeight) return;
             bestToken = token;
             bestWeight = weight;
