@@ -459,12 +459,15 @@ public final class PromiseTest {
         for (int far : FAR) due("cheapest(far)", x.cheapest(far), OUTSIDE);
         x = withText("bbbbbbbbbbbbbbbbbbbbbbbb");
         x.price(1, 1);
-        x.price(4, 30);
+        // one PRICE more for a row of only 4 TOKENS (1, 12, 6, 6)
+        x.price(4, 7);
         int[] plain = new int[24];
         java.util.Arrays.fill(plain, 1);
         dueTokens("24 PLAIN ones", x, plain);
         due("cheapest(0) of 24 PLAIN ones", x.cheapest(0), 24);
         due("cheapest(2) of 24 PLAIN ones", x.cheapest(2), 24);
+        x.price(4, 6);
+        dueTokens("4 TOKENS of the same PRICE", x, 1, 1017, 108, 108);
         fewestTokens();
         leastNumbers();
     }
