@@ -241,6 +241,11 @@ public final class ChosenCodesTest {
         dueParts("a".repeat(12), 4, 15 + 15 + 15, 3);
         // no part copies beyond its end
         dueParts("aaaaaab", 4, 15 + 24, 2);
+        // nor by an AGAIN: LENGTH 8 alone is cheap, and 3 letters are left behind a COPY
+        PricedCopies eight = Due.text("a".repeat(24));
+        for (int what = 10; what <= 15; what++) eight.price(what, 30);
+        eight.price(16, 1);
+        Due.is("parts(12, 0), LENGTH 8 cheap", eight.parts(12, 0), 2 * (8 + 7 + 24));
         // each is CHEAPEST, not GREEDY
         dueParts("abcabcabcabc" + "abcabcabcabc", 12, 38 + 38, 2);
         // by PRICES as they are
@@ -509,7 +514,7 @@ public final class ChosenCodesTest {
         PricedCopies x = Due.text("abcabcabcabc");
         Due.write(x, "aA");
         long before = x.digest();
-        for (int n = 1; n <= 24; n++) for (int what = 0; what <= 2; what++) x.parts(n, what);
+        for (int n = 24; n >= 1; n--) for (int what = 0; what <= 2; what++) x.parts(n, what);
         Due.tokens("behind parts()", x, 0, 1, 2, 1032, 107);
         Due.is("digest() behind parts()", x.digest(), before);
     }

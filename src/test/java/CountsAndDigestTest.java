@@ -66,6 +66,10 @@ public final class CountsAndDigestTest {
 
     private static void kindsOfTokens() {
         dueKinds("d", Due.text("d"), 1, 0, 0);
+        // each asked first of all
+        Due.is("count(2) alone", Due.text(RICH).count(2), 8);
+        Due.is("count(3) alone", Due.text(RICH).count(3), 1);
+        Due.is("count(4) alone", Due.text(RICH).count(4), 2);
         PricedCopies x = Due.text(RICH);
         dueKinds(RICH, x, 8, 1, 2);
         Due.retext(x, "a".repeat(24));
@@ -258,15 +262,13 @@ public final class CountsAndDigestTest {
     }
 
     private static void digestWraps() {
-        PricedCopies x = Due.text("abcdabcdabcdabcdabcdabcd");
-        Due.setPrices(x, 1, 1, 1, 1, 30, 30, 30, 30, 30, 30, 30, 30, 30, 30, 30, 30, 30, 30);
-        Due.write(x, "~".repeat(30));
-        Due.is("digest() of as many numbers as there can be", x.digest(), reckoned(x, "~".repeat(30)));
-        // digests below 0 and above it
+        // as many numbers as there can be; digests below 0 and above it
         boolean below = false;
         boolean above = false;
         for (int v = 1; v <= 30; v++) {
-            x.price(0, v);
+            PricedCopies x = Due.text("abcdabcdabcdabcdabcdabcd");
+            Due.setPrices(x, v, 1, 1, 1, 30, 30, 30, 30, 30, 30, 30, 30, 30, 30, 30, 30, 30, 30);
+            Due.write(x, "~".repeat(30));
             long due = reckoned(x, "~".repeat(30));
             Due.is("digest() with PRICE " + v, x.digest(), due);
             below |= due < 0;

@@ -268,8 +268,8 @@ public final class PricesTest {
     }
 
     private static void priceBecomes() {
-        PricedCopies x = new PricedCopies();
         for (int what = 0; what < 18; what++) {
+            PricedCopies x = new PricedCopies();
             int was = Due.FIRST_PRICES[what];
             for (int v = 1; v <= 30; v++) {
                 Due.is("price(" + what + ", " + v + ")", x.price(what, v), was);
@@ -426,6 +426,8 @@ public final class PricesTest {
         Due.is("rest(0) at REST", x.rest(0), 0);
         Due.is("rest(1) at REST", x.rest(1), 4);
         Due.is("rest(2) at REST", x.rest(2), 4);
+        x.price(3, 6);
+        Due.is("rest(0) a ROUND ahead of it", x.rest(0), 1);
     }
 
     private static void restTwelve() {

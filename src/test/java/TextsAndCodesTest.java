@@ -389,6 +389,8 @@ public final class TextsAndCodesTest {
         dueFault("e", 0, 0);
         dueFault("2", 0, 0);
         dueFault("A2", 0, 0);
+        dueFault("=2", 0, 0);
+        dueFault("a=2", 1, 1);
         dueFault("abe", 2, 2);
         dueFault("ab2", 2, 2);
         dueFault("aB2", 1, 1);
@@ -417,6 +419,7 @@ public final class TextsAndCodesTest {
         dueFault(LONG, 24, 24);
         dueFault("aA2", 1, 3);
         dueFault("aA2=8", 1, 5);
+        dueFault("aA2b=2", 1, 6);
         dueFault(FULL_CODE, 1, 7);
         // what breaks off has no fault, either
         dueFault("aA", 1, 2);
@@ -541,6 +544,7 @@ public final class TextsAndCodesTest {
         dueDecoded(FULL_CODE, "a".repeat(24));
         dueDecoded("aA8=8=7", "a".repeat(24));
         dueDecoded("abB8=8=6", "ab".repeat(12));
+        dueDecoded("abcC4d=3B2", "abcabcadcadad");
         PricedCopies x = Due.page("abB2");
         x.decode();
         Due.is("longest(2, 0) of abab", x.longest(2, 0), 2);
