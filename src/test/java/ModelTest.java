@@ -15,6 +15,7 @@ public final class ModelTest {
 
     public static void main(String[] args) {
         allCodesOfShortTexts();
+        longRests();
         for (int seed = 0; seed < 400; seed++) mixedRun(seed);
         System.out.println(asked + " answers compared, " + wrong + " wrong");
         if (wrong != 0) System.exit(1);
@@ -86,6 +87,28 @@ public final class ModelTest {
                 grow(text, Model.copied(made, distance, length), distance, row, all);
                 row.remove(row.size() - 1);
             }
+        }
+    }
+
+    // ---- REST that comes late or never: texts that PricesTest rests on, and that a search with the class found
+
+    private static void longRests() {
+        dueRests("abbbacbbbbcabacabbaabac", new int[] {2, 8, 2, 2, 1, 5, 5, 8, 3, 1, 2, 8, 8, 2, 5, 6, 2, 4}, 12);
+        dueRests("aaababbabbabaabaab", Model.FIRST.clone(), -1);
+    }
+
+    private static void dueRests(String text, int[] prices, int rounds) {
+        Model model = new Model();
+        PricedCopies x = new PricedCopies();
+        model.prices = prices;
+        for (int i = 0; i < 18; i++) x.price(i, prices[i]);
+        for (int i = 0; i < text.length(); i++) due(text, "letter", x.letter(text.charAt(i)), model.letter(text.charAt(i)));
+        due(text, "text()", x.text(), model.text());
+        due(text, "the model's rest(0)", model.rest(0), rounds);
+        for (int round = 0; round <= 14; round++) {
+            for (int what = 0; what <= 2; what++) due(text, "rest(" + what + ")", x.rest(what), model.rest(what));
+            for (int what = 0; what <= 1; what++) due(text, "cheapest(" + what + ")", x.cheapest(what), model.cheapest(what));
+            due(text, "round()", x.round(), model.round());
         }
     }
 

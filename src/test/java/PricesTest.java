@@ -2,6 +2,7 @@
 public final class PricesTest {
     private static final int NONE = Due.NONE, UNKNOWN = Due.UNKNOWN, OUTSIDE = Due.OUTSIDE, STATE = Due.STATE;
 
+    // Both were found by a search with the class; ModelTest holds them against the model.
     /** Three PRICES of CHEAPEST take turns from its second ROUND on, for ever. */
     private static final String NEVER_RESTS = "aaababbabbabaabaab";
     /** It rests behind 12 ROUNDS and no sooner, by these PRICES. */
